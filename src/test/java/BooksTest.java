@@ -196,6 +196,7 @@ public final class BooksTest {
         A.due("23: three of three", payments(3, -1, -2, 9, -4, -5, 20, -7, -13), 6);
         A.due("23: eleven in five groups", payments(1, -1, 2, -2, 3, -3, 4, -4, 10, -4, -6), 6);
         A.due("23: eleven in one group", payments(1, 2, 4, 8, 16, 32, 64, 128, 256, 512, -1023), 10);
+        A.due("23: the first stands by another", payments(1, 5, -2, -5, 1), 3);
         A.due("23: 2 + 3 = 5, not 2 - 2", payments(2, 3, -5, -2, 2), 3);
         KnockTable t = new KnockTable();
         A.due("23: month", t.payments(34), Answers.BEYOND);

@@ -60,7 +60,10 @@ public final class CarsTest {
         t.rate(1, 50);
         A.due("3: book by halves", t.carIs(0, 5), 0);
         A.due("3: book by halves", t.carIs(1, 5), 250);
-        A.due("3: no such car", t.carIs(2, 0), Answers.BEYOND);
+        t.car(3, 1000, 20000, 0);
+        A.due("3: just 20 years", t.carIs(2, 2), 20);
+        A.due("3: no excess", t.carIs(2, 3), 0);
+        A.due("3: no such car", t.carIs(3, 0), Answers.BEYOND);
         A.due("3: no such car", t.carIs(-1, 0), Answers.BEYOND);
         A.due("3: no such what", t.carIs(0, 9), Answers.BEYOND);
         A.due("3: no such what", t.carIs(0, -1), Answers.BEYOND);
@@ -163,6 +166,12 @@ public final class CarsTest {
         for (int what = 0; what <= 10; what++) {
             A.due("8: with shapes " + what, t.crashIs(0, what), fitting[what]);
         }
+        t.tells(0, 0, 0b001);
+        A.due("8: the first tells one", t.crashIs(0, 7), 0b001);
+        t.tells(0, 0, 0);
+        t.tells(0, 1, 0b001);
+        A.due("8: the second tells one", t.crashIs(0, 7), 0b001);
+        t.tells(0, 1, 0);
         t.tells(0, 0, 0b011);
         A.due("8: one tells, the other says nothing", t.crashIs(0, 7), 0b011);
         A.due("8: agreed", t.crashIs(0, 10), 30);
@@ -183,6 +192,19 @@ public final class CarsTest {
         A.due("8: crash", t.crashIs(1, 0), Answers.BEYOND);
         A.due("8: crash", t.crashIs(-1, 0), Answers.BEYOND);
         agreedFault();
+        oldDents();
+    }
+
+    private static void oldDents() {
+        KnockTable t = new KnockTable();
+        t.car(0, 100, 0, 0b11110000);
+        t.car(1, 100, 0, 0b10101010);
+        t.crash(1, 0, 65535);
+        t.crash(100, 0, 65535);
+        A.due("8: fresh, first side", t.crashIs(0, 4), 0b00001111);
+        A.due("8: fresh, second side", t.crashIs(0, 5), 0b01010101);
+        A.due("8: fresh, sides changed", t.crashIs(1, 4), 0b01010101);
+        A.due("8: fresh, sides changed", t.crashIs(1, 5), 0b00001111);
     }
 
     private static void agreedFault() {

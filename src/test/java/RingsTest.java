@@ -134,6 +134,13 @@ public final class RingsTest {
         marks(t, 4, 1, 1, 2);
         marks(t, 9, 3, 3, 3);
         marks(t, 14, 3, 3, 3);
+        marks(t, 1, 3, 3, 3);
+        A.due("28: two rings joined", t.rings(5), 1);
+        marks(t, 1, 3, 3, 4);
+        marks(t, 0, 9, 9, 9);
+        marks(t, 1, 9, 9, 9);
+        A.due("28: the first alone", t.rings(1), 6);
+        marks(t, 0, 1, 1, 1);
         int[] due = {5, 2, 1, 0};
         for (int k = 1; k <= 4; k++) {
             A.due("28: rings of " + k, t.rings(k), due[k - 1]);
@@ -161,6 +168,8 @@ public final class RingsTest {
         marks(t, 5, 6, 6, 6);
         marks(t, 9, 6, 6, 6);
         A.due("29: three of lesser bits", t.core(), 0b00010110);
+        marks(t, 1, 6, 6, 6);
+        A.due("29: four with the first", t.core(), 0b00010111);
         KnockTable all = new KnockTable();
         all.car(0, 1, 0, 0);
         all.car(1, 1, 0, 0);
@@ -214,6 +223,16 @@ public final class RingsTest {
         for (int k = 0; k < 3; k++) {
             A.due("30: first of the round", t.chain(0, 0, 1 + k), k);
         }
+        row(t, 0, 8, 7, 0, 1, 1, 0, 7);
+        // 0 into 2, 1 into 1 alone, 2 into 0
+        A.due("30: one that none drives into", t.chain(0, 0, 0), 0);
+        row(t, 0, 8, 7, 1, 0, 9, 1, 7);
+        // 0 into 2, 2 into 0, none into 1
+        A.due("30: one with no way in and none out", t.chain(0, 0, 0), 0);
+        row(t, 0, 8, 3, 9, 5, 8, 8, 3);
+        // 0 into 2, 2 into 1
+        A.due("30: 0 skips 1", t.chain(0, 0, 2), 2);
+        A.due("30: then 1", t.chain(0, 0, 3), 1);
         row(t, 0, 8, 5, 1, 3, 5, 1, 3);
         A.due("30: another round", t.chain(0, 0, 0), 3);
         row(t, 0, 8, 50, 40, 40, 60, 30, 50);

@@ -52,6 +52,11 @@ public final class TextsTest {
         fault(0, "ma x(l,m)", 0);
         fault(0, "maxl(l,m)", 0);
         fault(0, "med(l,m)", 0);
+        fault(0, "lz", 0);
+        fault(0, "la", 0);
+        fault(0, "l{", 1);
+        fault(0, "l`", 1);
+        fault(0, "1:", 1);
         fault(0, "l m", 2);
         fault(0, "1 2", 2);
         fault(0, "1l", 1);
@@ -93,6 +98,8 @@ public final class TextsTest {
         A.due("14: five behind max", Answers.treaty(t, "max(max(max(max(max(1,2),3),4),5),6)", 0, 0), 4);
         A.due("14: five in the second", Answers.treaty(t, "min(1,min(2,min(3,min(4,-5))))", 0, 0), 5);
         fault(0, "!!!!!!l", 5);
+        fault(0, "max(!!!!!l,m)", 8);
+        fault(0, "max(l,!!!!!m)", 10);
         fault(0, "------l", 5);
         fault(0, "((((((l))))))", 5);
         fault(0, "(((((-l)))))", 5);
@@ -131,6 +138,11 @@ public final class TextsTest {
         Answers.treaty(t, "3", 1, 0);
         Answers.treaty(t, "4", 0, 999);
         A.due("15: ahead of all", t.force(0, 2), Answers.NONE);
+        KnockTable one = new KnockTable();
+        Answers.treaty(one, "1", 0, 5);
+        A.due("15: treaty 0", one.force(0, 5), 0);
+        A.due("15: treaty 0 on a later day", one.force(0, 999), 0);
+        A.due("15: not on the day ahead", one.force(0, 4), Answers.NONE);
         A.due("15: from its day on", t.force(0, 3), 1);
         A.due("15: told last, though of a day ahead", t.force(0, 5), 1);
         A.due("15: told last", t.force(0, 998), 1);
@@ -190,6 +202,10 @@ public final class TextsTest {
         says("(1|1)&0", 0);
         says("l<m", 0);
         says("m<l", 1);
+        says("m<m", 0);
+        says("l=m", 0);
+        says("max(0,n|1)+min(2,l|n)", 2);
+        says("max(n|1,0)+(0|n)", 1);
         says("l=7", 1);
         says("l>m", 1);
         says("m>m", 0);

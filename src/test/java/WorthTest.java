@@ -130,6 +130,9 @@ public final class WorthTest {
         A.due("12: held within r", t.back(0, 0, 7), 7);
         Answers.treaty(t, "-r", 1, 0);
         A.due("12: held at 0", t.back(0, 0, 7), 0);
+        KnockTable first = two();
+        Answers.treaty(first, "2", 1, 0);
+        A.due("12: by treaty 0", first.back(0, 0, 7), 2);
         int[][] wrong = {{1, 0, 0}, {-1, 0, 0}, {0, 2, 0}, {0, -1, 0}, {0, 0, 1000000}, {0, 0, -1}, {MAX, MIN, MAX}};
         for (int[] w : wrong) {
             A.due("12: wrong", t.back(w[0], w[1], w[2]), Answers.BEYOND);
