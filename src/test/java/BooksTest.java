@@ -501,6 +501,8 @@ public final class BooksTest extends Answers {
         due("a pair, with others between", payments(5, 0, 0, -5), 1);
         due("one to two", payments(5, -3, -2), 2);
         due("two to one", payments(-5, 3, 2), 2);
+        due("one to two of 1", payments(2, -1, -1), 2);
+        due("two of 1 to one", payments(-2, 1, 1), 2);
         due("two pairs", payments(5, 3, -3, -5), 2);
         due("no pairs", payments(5, 3, -4, -4), 3);
         due("two groups of three", payments(5, -3, -2, 7, -6, -1), 4);

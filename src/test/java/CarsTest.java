@@ -612,6 +612,12 @@ public final class CarsTest extends Answers {
         t.tells(0, 1, 0b001);
         due("LEAST of one", t.crashIs(0, 8), 20);
         due("MOST of one", t.crashIs(0, 9), 20);
+        t = crashed(0, 0, 0);
+        t.shape(0, 0, 0);
+        due("MOST of one without fault", t.crashIs(0, 9), 0);
+        t = crashed(0, 0, 0);
+        t.shape(0, 0, 100);
+        due("LEAST of one with all fault", t.crashIs(0, 8), 100);
     }
 
     @Says("0 and 100 without any.")

@@ -162,6 +162,21 @@ public final class RingsTest extends Answers {
         due("the only one ahead", t.like(1, 0, 0), 0);
     }
 
+    @Says("by how UNLIKE it they are,")
+    static void promise26ALittleLikerIsAhead() {
+        KnockTable t = new KnockTable();
+        t.car(0, 1, 0, 0);
+        t.car(1, 1, 0, 0);
+        for (int i = 0; i < 19; i++) {
+            t.crash(1, 19 - i, 0);
+        }
+        t.crash(1, 0, 0);
+        for (int i = 0; i < 19; i++) {
+            due("which is at " + i, t.like(19, i, 0), 18 - i);
+            due("how UNLIKE at " + i, t.like(19, i, 1), 1 + i);
+        }
+    }
+
     @Says("NONE.")
     static void promise26NoneSoFar() {
         refused("none ahead of the first", NONE, Looks::some, t -> t.like(0, 0, 0));
@@ -290,6 +305,18 @@ public final class RingsTest extends Answers {
         due("others aren't in it", t.ring(3), 0b1000);
     }
 
+    @Says("all to which TIES lead from it (it, too).")
+    static void promise27TiesEndWithTheMarks() {
+        KnockTable t = eight();
+        marks(t, 0, 5, 6, -1);
+        marks(t, 3, 5, 6, -1);
+        due("TIED", t.ring(0), 0b11);
+        t.mark(3, 0, 7);
+        due("no more", t.ring(0), 1);
+        due("nor for rings()", t.rings(2), 0);
+        due("nor for core()", t.core(), 1);
+    }
+
     /** Twenty crashes in a row of twenty-one cars, told so that ties lead up and down. */
     private static KnockTable twenty() {
         KnockTable t = new KnockTable();
@@ -406,6 +433,14 @@ public final class RingsTest extends Answers {
             t.crash(1, 0, 0);
         }
         due("all twenty", t.core(), (1 << 20) - 1);
+        KnockTable empty = new KnockTable();
+        empty.image();
+        empty.car(0, 1, 0, 0);
+        empty.car(1, 1, 0, 0);
+        empty.crash(1, 0, 0);
+        due("one", empty.core(), 1);
+        empty.restore();
+        due("none again", empty.core(), 0);
     }
 
     /** Six cars, each two of which met: where each two crashes are tied, all share one car, or they are three. */
@@ -460,6 +495,8 @@ public final class RingsTest extends Answers {
         order(row(8, 0, 0, 0, 0, 0, 0, 0, 0, 0, 0, 0, 0), 0, 720, 0, 1, 2, 3, 4, 5);
         // 0 may stand ahead of 1 or 2, but nothing stands behind 1
         order(row(8, 5, 99, 70, 5, 5, 5), 0, 1, 0, 2, 1);
+        // 1 could go on to 2, but 0 doesn't drive into 1
+        order(row(8, 1, 99, 1, 2, 2, 1), 0, 1, 0, 2, 1);
     }
 
     @Says("in an order in which each front is no more than so much off the back of the next one.")

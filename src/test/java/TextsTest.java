@@ -190,6 +190,19 @@ public final class TextsTest extends Answers {
         due("its value", t.says(2, 0, 0, 0, 0), 5);
     }
 
+    @Says("THE TAPE, which is empty then,")
+    static void promise14NothingIsLeftOfAnEarlierText() {
+        KnockTable t = new KnockTable();
+        treaty(t, "lll", TABLE, 0);
+        due("a word ends where THE TAPE ends", treaty(t, "l", TABLE, 0), 0);
+        treaty(t, "123", TABLE, 0);
+        due("a number, too", treaty(t, "4", TABLE, 0), 2);
+        due("4", t.says(2, 0, 0, 0, 0), 4);
+        treaty(t, "1" + "+1".repeat(29) + "+", TABLE, 0);
+        treaty(t, "2" + "+2".repeat(29), TABLE, 0);
+        due("a long one behind a long FAULT", t.says(3, 0, 0, 0, 0), 60);
+    }
+
     @Says("how many bytes there are, if it ends too early.")
     static void promise14AnEmptyTape() {
         early("");
@@ -406,9 +419,13 @@ public final class TextsTest extends Answers {
         KnockTable t = new KnockTable();
         due("all of them are read", treaty(t, longest, TABLE, 0), 0);
         due("and added", t.says(0, 0, 0, 0, 0), 30);
+        String allSigns = "!!1" + "+!1".repeat(19);
+        due("sixty bytes, each a word", allSigns.length(), 60);
+        due("all of them are read", treaty(t, allSigns, TABLE, 0), 1);
+        due("and added", t.says(1, 0, 0, 0, 0), 1);
         String deep = "1|1&1<1+1*(".repeat(4) + "1|1&1<1+1*1" + ")".repeat(4);
-        due("a deep one", treaty(t, deep, TABLE, 0), 1);
-        due("its value", t.says(1, 0, 0, 0, 0), 1);
+        due("a deep one", treaty(t, deep, TABLE, 0), 2);
+        due("its value", t.says(2, 0, 0, 0, 0), 1);
         fault(deep + ")", 59);
     }
 
