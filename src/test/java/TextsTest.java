@@ -262,6 +262,9 @@ public final class TextsTest extends Answers {
         fault("l+\t", 2);
         fault("l\n", 1);
         fault("l+\u0000", 2);
+        fault("l\u0000", 1);
+        fault("\u0000", 0);
+        fault("l\u00ff", 1);
         fault("l+\u001f", 2);
         fault("l+\u007f", 2);
         fault("l+\u0080m", 2);

@@ -376,6 +376,22 @@ public final class ToldTest extends Answers {
         due("and is asked for again", t.check(3), 1);
     }
 
+    @Says("The numbers that wait (none do then)")
+    static void promise39NumbersOfAnEarlierCheckAreGone() {
+        KnockTable t = owing();
+        t.tell(99);
+        due("wrong", t.check(0), 1);
+        due("gone", t.check(0), 0);
+        for (int v : new int[] {1, 0, 100, 99}) {
+            t.tell(v);
+        }
+        due("the fourth is wrong", t.check(3), 4);
+        for (int v : new int[] {1, 0, 100}) {
+            t.tell(v);
+        }
+        due("there is no fourth", t.check(3), 0);
+    }
+
     @Says("BEYOND (none wait then, too).")
     static void promise39NoSuchMonth() {
         for (int wrong : new int[] {-1, 34, MIN, MAX}) {
